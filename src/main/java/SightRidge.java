@@ -480,7 +480,7 @@ public final class SightRidge {
         }
 
         boolean inContact(int a, int b) {
-            return a != b && Math.abs(a - b) <= range && topsSee(a, b);
+            return a != b && Math.abs(a - b) <= range && pointsSee(a, topOf(a), b, topOf(b));
         }
 
         int contacts(int s) {

@@ -10,6 +10,7 @@ public final class ChainTest {
         chainNone();
         newMasts();
         newMastsFewest();
+        newMastsBeforeStations();
         newMastsOverHills();
         vital();
         vitalWithoutChain();
@@ -139,6 +140,19 @@ public final class ChainTest {
         check.due("newMasts(19, 0, 1)", bare.newMasts(19, 0, 1), 20);
         check.due("finding(0)", bare.finding(0), 19);
         check.due("finding(19)", bare.finding(19), 0);
+    }
+
+    private static void newMastsBeforeStations() {
+        check.promise("promise 22");
+        SightRidge x = Check.withProfile("50,50*17m1,50,999");
+        x.setBulge(2);
+        // The summit on 19 sees all, but it would be a third new mast; the others see their neighbors alone.
+        check.due("newMasts(0, 18, 1)", x.newMasts(0, 18, 1), 2);
+        check.due("finding(-1)", x.finding(NONE), 19);
+        check.due("finding(18)", x.finding(18), 18);
+        x.mast(19, 1);
+        check.due("newMasts(0, 18, 1) by the summit", x.newMasts(0, 18, 1), 2);
+        check.finding(x, "newMasts(0, 18, 1) by the summit", 0, 19, 18);
     }
 
     private static void newMastsOverHills() {

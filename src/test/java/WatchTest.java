@@ -6,6 +6,7 @@ public final class WatchTest {
     public static void main(String[] args) {
         watch();
         watchInPlace();
+        watchFromNeighbors();
         watchLongLine();
         watched();
         check.finish();
@@ -45,6 +46,15 @@ public final class WatchTest {
         x.setBulge(9);
         // From 3, the hill on 1 stays in view over a bulge of 9 on 2.
         check.due("watch(1) with a bulge", x.watch(1), 0b01001);
+    }
+
+    private static void watchFromNeighbors() {
+        check.promise("promise 26");
+        SightRidge x = Check.withProfile("0,20,0,20,0,100*2,0,20,0,20,0");
+        // Each of the two summits sees one side whole, and no other station does.
+        check.due("watch(1)", x.watch(1), 0b0000_0110_0000);
+        check.finding(x, "watch(1)", 5, 6);
+        check.due("watched() as they are now", x.watched(0b0000_0110_0000), 12);
     }
 
     private static void watchLongLine() {
