@@ -72,6 +72,9 @@ final class WatchEdges {
         // 2 sees all but the ground of 0, which 0 and 1 see.
         SightRidge either = Check.withProfile("0,10,10,0,0");
         check.due("watch(1), by 0 rather than by 1", either.watch(1), 0b00101);
+        // 0, 2 and 5 see all as well, and are the less number, but they are three.
+        SightRidge last = Check.withProfile("0,417,428,0,78,126,0,556");
+        check.due("watch(3), by two with the last one", last.watch(3), 0b10000001);
         SightRidge summits = Check.withProfile("0,20,0,20,0,100*2,0,20,0,20,0");
         check.due("watch(1), by two neighbors", summits.watch(1), 0b0000_0110_0000);
         SightRidge hills = Check.withProfile("0,10,0,10,0");
